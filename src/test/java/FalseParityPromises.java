@@ -175,6 +175,12 @@ public final class FalseParityPromises {
         due(4, "trace()", x.trace(), 1);
         due(4, "nothing", read(x, ""), 0);
         due(4, "nobody", x.count(0), 0);
+        due(4, "a text that ends too early", read(x, "p1;n5 1 0"), -19);
+        due(4, "the next one", read(x, "p1;"), 1);
+        due(4, "a PURSE of nothing", x.person(0, 1), 0);
+        due(4, "WORTH of nothing", x.now(3), 0);
+        due(4, "false WORTH of nothing", x.now(4), 0);
+        due(4, "LET IN of nothing", x.letIn(0), 0);
         due(4, "no NOTES", x.count(1), 0);
     }
 
@@ -250,6 +256,13 @@ public final class FalseParityPromises {
         }
         due(8, "no such NOTE", x.passes(4, 0), BAD);
         due(8, "no such PERSON", x.passes(0, 4), BAD);
+        FalseParity y = told(FOUR);
+        deeds(y, 0, 2);
+        deeds(y, 1, 0, 3);
+        due(8, "USES of another", y.note(0, 3), 1);
+        due(8, "USES of the REFUSED", y.note(1, 3), 0);
+        due(8, "HOLDER of another", y.note(0, 2), 2);
+        due(8, "HOLDER of the REFUSED", y.note(1, 2), 0);
         due(8, "BOARD 1: by one passing", parityByOne(), 1);
     }
 
@@ -383,6 +396,13 @@ public final class FalseParityPromises {
             due(12, "nine", nine.soonest(0, k), 1 + k % 2);
         }
         due(12, "nine", nine.soonest(0, 9), -5);
+        FalseParity low = told("p0;p1;p0;n9 1 2;b3;");
+        due(12, "the lowest first", low.soonest(0, 0), 0);
+        due(12, "the lowest first", low.soonest(0, 1), 2);
+        due(12, "the lowest first", low.soonest(0, 2), 0);
+        FalseParity last = told("p0;p1;n9 1 0;n9 1 1;b1;");
+        due(12, "nobody else for the one that lacks", last.soonest(0, -1), NONE);
+        due(12, "somebody else", last.soonest(1, 0), 0);
         due(12, "nothing is changed", nine.note(0, 3) + nine.now(5), 0);
         due(13, "two takers", nine.till(0), -5);
     }
@@ -465,6 +485,27 @@ public final class FalseParityPromises {
         }
         FalseParity y = told("p31;p0;p3;p12;");
         due(17, "the lowest of several", y.show(), 2);
+        due(17, "31 by 1 is less than 32 by 0", told("p0;p31;").show(), 1);
+        due(17, "nobody looks for any", told("p0;p0;").show(), 0);
+        FalseParity two = told("p30;p0;p1;");
+        two.saw(0, 1);
+        due(16, "nothing or MARK 0", two.canBe(0), 2);
+        due(16, "the least", two.canBe(1), 0);
+        due(16, "in all", two.canBe(2), 0);
+        due(17, "two can be", two.show(), 2);
+        FalseParity full = told("p1;p2;p4;p8;p16;");
+        for (int p = 0; p < 5; p++) {
+            full.saw(p, 0);
+        }
+        due(16, "all MARKS", full.canBe(0), 1);
+        due(16, "the least", full.canBe(1), 31);
+        due(16, "in all", full.canBe(2), 31);
+        FalseParity thirty = told("p6;p14;p1;");
+        thirty.saw(2, 1);
+        due(17, "4 by 12; 2 by 14", thirty.show(), 0);
+        FalseParity either = told("p30;p15;");
+        either.saw(1, 0);
+        due(17, "2 by 28; 0 by 30", either.show(), 0);
     }
 
     private static void board() {
