@@ -272,6 +272,7 @@ public final class FalseParityPromises {
         return x.now(0);
     }
 
+    /** Nothing is promised beyond the 512th call, but no shorter run comes to the edge of 999. */
     private static void mostCounted() {
         FalseParity x = told("p1;p1;n1 1 0;n1 0 0;");
         for (int i = 0; i < 999; i++) {
