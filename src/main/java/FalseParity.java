@@ -439,7 +439,6 @@ public final class FalseParity {
             draft.empty();
             items = 0;
             item = NO_ITEM;
-            numbers = 0;
             boardTold = false;
             shareTold = false;
         }

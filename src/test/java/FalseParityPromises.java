@@ -5,51 +5,13 @@ import java.lang.reflect.Modifier;
 import java.util.TreeSet;
 
 /** For each promise of the document: ordinary inputs, the edges that it names, wrong inputs. */
-public final class FalseParityPromises {
-    private static final int BAD = -1, STATE = -2, FULL = -3, NONE = -9, NO = -1000000;
+public final class FalseParityPromises extends Checks {
     private static final int[] WRONG = {-1, 7, 99, Integer.MAX_VALUE, Integer.MIN_VALUE};
-    private static int wrong = 0;
 
     private static void due(int promise, String what, long got, long want) {
-        if (got != want) {
-            wrong++;
-            System.out.println("promise " + promise + ": " + what + " answered " + got + ", due is " + want);
-        }
+        by("promise " + promise);
+        due(what, got, want);
     }
-
-    private static void type(FalseParity x, String text) {
-        for (int i = 0; i < text.length(); i++) {
-            x.type(text.charAt(i));
-        }
-    }
-
-    private static int read(FalseParity x, String text) {
-        x.clear();
-        type(x, text);
-        return x.country();
-    }
-
-    private static FalseParity told(String text) {
-        FalseParity x = new FalseParity();
-        if (read(x, text) < 0) {
-            wrong++;
-            System.out.println("the text was refused: " + text);
-        }
-        return x;
-    }
-
-    private static void deeds(FalseParity x, int n, int... people) {
-        for (int p : people) {
-            x.passes(n, p);
-        }
-    }
-
-    private static int refusedText(String text) {
-        return read(new FalseParity(), text);
-    }
-
-    // Four people, of whom 1 and 2 take note 0; note 3 is true; BOARD 2, SHARE 5.
-    private static final String FOUR = "p1;p6;p0;p3;n20 1 0;n50 2 1;n10 4 2;n5 0 3;b2;s5;";
 
     private static void newObject() {
         FalseParity x = new FalseParity();
@@ -97,11 +59,11 @@ public final class FalseParityPromises {
     }
 
     private static void texts() {
-        due(4, "no items", refusedText(""), 0);
-        due(4, "blanks", refusedText("    "), 0);
-        due(4, "all items", refusedText(FOUR), 10);
-        due(4, "blanks all over", refusedText("  p  31 ; n 99  31  0 ;b 9;  s 10 ;  "), 4);
-        due(4, "b, s ahead", refusedText("s0;b1;p0;"), 3);
+        due(4, "no items", reading(""), 0);
+        due(4, "blanks", reading("    "), 0);
+        due(4, "all items", reading(FOUR), 10);
+        due(4, "blanks all over", reading("  p  31 ; n 99  31  0 ;b 9;  s 10 ;  "), 4);
+        due(4, "b, s ahead", reading("s0;b1;p0;"), 3);
         String[] texts = {
             "p", "p ", "p1", "p1 ", "p;", "p32;", "p100", "p01;", "p00;", "p0 1;", "p0p", "p0;p0;p0;p0;p0;p",
             "n1 0 0;", "p0;n0 0 0;", "p0;n99 0 0;n100 0 0;", "p0;n1 32 0;", "p0;n1 0 1;", "p0;n1 0;",
@@ -117,13 +79,13 @@ public final class FalseParityPromises {
             14, 8, 8, 1, 2, 4, 1, 1, 1,
             2, 6, 8};
         for (int i = 0; i < texts.length; i++) {
-            due(4, "country() of \"" + texts[i] + "\"", refusedText(texts[i]), -10 - faults[i]);
+            due(4, "country() of \"" + texts[i] + "\"", reading(texts[i]), -10 - faults[i]);
         }
     }
 
     private static void faultChangesNothing() {
         FalseParity x = told(FOUR);
-        deeds(x, 0, 3, 2, 1);
+        pass(x, 0, 3, 2, 1);
         x.saw(0, 1);
         x.hears(1, 0);
         x.keep(0);
@@ -146,7 +108,7 @@ public final class FalseParityPromises {
 
     private static void readAnew() {
         FalseParity x = told(FOUR);
-        deeds(x, 0, 3, 2, 1);
+        pass(x, 0, 3, 2, 1);
         x.sends(1, 1);
         x.teaches(0, 9);
         x.saw(0, 1);
@@ -210,7 +172,7 @@ public final class FalseParityPromises {
             due(6, "LOOKS", x.person(p, 0), looks[p]);
             due(6, "PURSE", x.person(p, 1), purses[p]);
         }
-        deeds(x, 0, 2, 1);
+        pass(x, 0, 2, 1);
         due(5, "PARITY", x.note(0, 4), 1);
         due(5, "TAKERS by PARITY", x.note(0, 6), 15);
         due(6, "PURSE of two", x.person(1, 1), 70);
@@ -244,7 +206,7 @@ public final class FalseParityPromises {
         due(8, "PARITY", x.note(0, 4), 1);
         due(8, "he looks for it", x.passes(0, 3), 1);
         due(8, "USES go on", x.note(0, 3), 3);
-        deeds(x, 3, 0, 1, 2, 3);
+        pass(x, 3, 0, 1, 2, 3);
         due(8, "USES of a true one", x.note(3, 3), 4);
         due(8, "no PARITY of a true one", x.note(3, 4), 0);
         x.sends(0, 1);
@@ -257,8 +219,8 @@ public final class FalseParityPromises {
         due(8, "no such NOTE", x.passes(4, 0), BAD);
         due(8, "no such PERSON", x.passes(0, 4), BAD);
         FalseParity y = told(FOUR);
-        deeds(y, 0, 2);
-        deeds(y, 1, 0, 3);
+        pass(y, 0, 2);
+        pass(y, 1, 0, 3);
         due(8, "USES of another", y.note(0, 3), 1);
         due(8, "USES of the REFUSED", y.note(1, 3), 0);
         due(8, "HOLDER of another", y.note(0, 2), 2);
@@ -270,22 +232,6 @@ public final class FalseParityPromises {
         FalseParity x = told("p0;p0;n1 1 0;b1;");
         x.passes(0, 1);
         return x.now(0);
-    }
-
-    /** Nothing is promised beyond the 512th call, but no shorter run comes to the edge of 999. */
-    private static void mostCounted() {
-        FalseParity x = told("p1;p1;n1 1 0;n1 0 0;");
-        for (int i = 0; i < 999; i++) {
-            due(8, "TAKEN", x.passes(1, 1 - i % 2), 1);
-        }
-        due(8, "USES are 999", x.note(1, 3), 999);
-        due(8, "one more", x.passes(1, 0), STATE);
-        due(8, "one more", x.passes(1, 1), STATE);
-        for (int i = 0; i < 999; i++) {
-            due(8, "REFUSED", x.passes(0, 1), 0);
-        }
-        due(8, "REFUSED 999 times", x.passes(0, 1), STATE);
-        due(8, "counted", x.now(2), 999);
     }
 
     private static void teachingAndSending() {
@@ -318,7 +264,7 @@ public final class FalseParityPromises {
 
     private static void undoing() {
         FalseParity x = told(FOUR);
-        deeds(x, 0, 2, 3);
+        pass(x, 0, 2, 3);
         x.teaches(2, 7);
         x.sends(1, 1);
         x.sends(1, 1);
@@ -544,7 +490,7 @@ public final class FalseParityPromises {
         FalseParity x = told(FOUR);
         due(21, "which", x.letIn(0), 5);
         due(21, "WORTH", x.letIn(1), 30);
-        deeds(x, 0, 2, 1);
+        pass(x, 0, 2, 1);
         due(21, "behind PARITY", x.letIn(0), 4);
         due(21, "WORTH of these alone", x.letIn(1), 10);
         x.sends(1, 1);
@@ -568,9 +514,9 @@ public final class FalseParityPromises {
 
     private static void rating() {
         FalseParity x = told("p0;p1;p0;n20 7 0;n50 3 0;n9 1 0;");
-        deeds(x, 0, 2, 0);
-        deeds(x, 1, 1);
-        deeds(x, 2, 1);
+        pass(x, 0, 2, 0);
+        pass(x, 1, 1);
+        pass(x, 2, 1);
         int[][] rates = {{20, 22, 17, 44, 17, 22}, {50, 50, 48, 100, 49, 52}, {9, 9, 8, 18, 10, 11}};
         long[] traces = {1, 11, 101, 1011, 10101, 100001};
         long trace = 0;
@@ -597,15 +543,15 @@ public final class FalseParityPromises {
 
     private static void imaging() {
         FalseParity x = told(FOUR);
-        deeds(x, 0, 3, 2);
+        pass(x, 0, 3, 2);
         x.sends(2, 1);
         x.teaches(1, 9);
         due(23, "keep(0)", x.keep(0), 1);
         due(23, "may still be undone", x.now(5), 4);
         due(24, "none was kept", x.back(1), STATE);
-        deeds(x, 1, 3);
-        deeds(x, 0, 0, 2, 1);
-        deeds(x, 0, 1, 2, 1);
+        pass(x, 1, 3);
+        pass(x, 0, 0, 2, 1);
+        pass(x, 0, 1, 2, 1);
         x.sends(2, 0);
         x.teaches(1, 3);
         x.saw(0, 1);
@@ -667,8 +613,7 @@ public final class FalseParityPromises {
             + " new0, note2, now1, odds3, passes2, person2, rate2, saw2, sends2, show0, soonest2, teaches2, till1, trace0,"
             + " type1, undo0, years0]";
         if (!open.toString().equals(want)) {
-            wrong++;
-            System.out.println("the face is " + open);
+            tell("the face is " + open);
         }
     }
 
@@ -681,7 +626,6 @@ public final class FalseParityPromises {
         readAnew();
         notesAndPeople();
         passing();
-        mostCounted();
         teachingAndSending();
         undoing();
         soonestAndTill();
@@ -691,9 +635,6 @@ public final class FalseParityPromises {
         lettingIn();
         rating();
         imaging();
-        System.out.println(wrong == 0 ? "all answers are as due" : wrong + " answers are not as due");
-        if (wrong != 0) {
-            System.exit(1);
-        }
+        end();
     }
 }

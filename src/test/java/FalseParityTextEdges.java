@@ -94,6 +94,8 @@ public final class FalseParityTextEdges extends Checks {
         due("items and blanks", fullText().country(), 10);
         due("an item at the end", reading(" ".repeat(147) + "p1;"), 1);
         due("too early at the end", reading(" ".repeat(148) + "p1"), -10 - 150);
+        due("too early at the end, 0", reading(" ".repeat(148) + "p0"), -10 - 150);
+        due("too early at the end, 31", reading(" ".repeat(147) + "p31"), -10 - 150);
         due("a number of 149 letters", reading("p" + "9".repeat(149)), -10 - 1);
         FalseParity x = fullText();
         due("country()", x.country(), 10);
@@ -115,6 +117,23 @@ public final class FalseParityTextEdges extends Checks {
         y.clear();
         type(y, "p5;p0;n7 5 1;");
         same("clear()", answers(y), answers(rich()));
+    }
+
+    private static void shorterText() {
+        by("THE TEXT is empty: nothing of a longer one is read");
+        String[] longer = {"p05;", "p012345;", "p0;p0;n1 0 00;", ";;;;;;;;", "p1;p1;p1;p1;p1;p1;p1;", "99999999"};
+        for (String before : longer) {
+            for (String text : new String[] {"", "p", "p0", "p1", "p0 ", "p3", "p0;"}) {
+                FalseParity x = new FalseParity();
+                type(x, before);
+                x.clear();
+                due("\"" + text + "\" behind \"" + before + "\"", read(x, text), reading(text));
+            }
+        }
+        FalseParity y = told("p0;p0;p0;p0;p0;n1 0 4;");
+        due("behind country()", read(y, "p0"), -12);
+        due("behind country()", y.clear(), 2);
+        due("behind country()", read(y, "p0;n1 0 1"), -18);
     }
 
     // ---- how many, and how much
@@ -481,6 +500,7 @@ public final class FalseParityTextEdges extends Checks {
         mostLetters();
         fullTextIsRead();
         clearing();
+        shorterText();
         mostPeople();
         mostNotes();
         looks();
