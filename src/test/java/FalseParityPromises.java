@@ -2,6 +2,7 @@ import java.lang.reflect.Constructor;
 import java.lang.reflect.Field;
 import java.lang.reflect.Method;
 import java.lang.reflect.Modifier;
+import java.util.Arrays;
 import java.util.TreeSet;
 
 /** For each promise of the document: ordinary inputs, the edges that it names, wrong inputs. */
@@ -599,15 +600,29 @@ public final class FalseParityPromises extends Checks {
         for (Method m : FalseParity.class.getDeclaredMethods()) {
             if (!Modifier.isPrivate(m.getModifiers())) {
                 open.add(m.getName() + m.getParameterCount());
+                Class<?> answer = m.getName().equals("trace") ? long.class : int.class;
+                boolean numbers = Arrays.stream(m.getParameterTypes()).allMatch(t -> t == int.class);
+                if (m.getModifiers() != Modifier.PUBLIC || m.getReturnType() != answer || !numbers) {
+                    tell("not as the face has it: " + m);
+                }
             }
         }
         for (Field f : FalseParity.class.getDeclaredFields()) {
             if (!Modifier.isPrivate(f.getModifiers())) {
                 open.add(f.getName());
+                if (f.getModifiers() != (Modifier.PUBLIC | Modifier.STATIC | Modifier.FINAL) || f.getType() != int.class) {
+                    tell("not as the face has it: " + f);
+                }
             }
         }
         for (Constructor<?> c : FalseParity.class.getDeclaredConstructors()) {
             open.add("new" + c.getParameterCount());
+            if (c.getModifiers() != Modifier.PUBLIC) {
+                tell("not as the face has it: " + c);
+            }
+        }
+        if (FalseParity.class.getModifiers() != (Modifier.PUBLIC | Modifier.FINAL)) {
+            tell("the class is not public and final");
         }
         String want = "[BAD, FULL, NO, NONE, STATE, back1, canBe1, clear0, count1, country0, forget0, hears2, keep1, letIn1,"
             + " new0, note2, now1, odds3, passes2, person2, rate2, saw2, sends2, show0, soonest2, teaches2, till1, trace0,"
